@@ -807,16 +807,16 @@ public final class GreyDays {
         }
 
         int colourOn(int weekday) {
-            return colours[Math.floorMod(weekday, WEEK)];
+            return weekday >= 0 && weekday < WEEK ? colours[weekday] : NO_COLOUR;
         }
 
         /** The set of COLOURS missing so many DAYS from now on. */
         int missingIn(int d) {
-            return missingOn(day + d);
+            return missingOn((day + d) % WEEK);
         }
 
         int missingOn(int weekday) {
-            return setOf(colourOn(weekday));
+            return weekday >= 0 && weekday < WEEK ? setOf(colours[weekday]) : 0;
         }
 
         static int setOf(int colour) {
@@ -976,10 +976,6 @@ public final class GreyDays {
         }
 
         int lookOf(int someMix, int set) {
-            return coloursLeft(someMix, set);
-        }
-
-        static int coloursLeft(int someMix, int set) {
             return someMix & ~set;
         }
 
@@ -1006,7 +1002,7 @@ public final class GreyDays {
         }
 
         int lookOf(int someMix, int set) {
-            int left = coloursLeft(someMix, set);
+            int left = someMix & ~set;
             int withoutLeast = left & (left - 1);
             return withoutLeast == 0 ? left : withoutLeast;
         }
@@ -1032,7 +1028,7 @@ public final class GreyDays {
         }
 
         int lookOf(int someMix, int set) {
-            return coloursLeft(someMix, set) + 32 * (1 + shaped());
+            return (someMix & ~set) + 32 * (1 + shaped());
         }
 
         int markAsked(Asking asking) {
@@ -1270,7 +1266,7 @@ public final class GreyDays {
         private static boolean areApart(Town town, int a, int b) {
             for (int weekday = 0; weekday < Town.WEEK; weekday++) {
                 int set = town.missingOn(weekday);
-                if (Dyed.coloursLeft(a, set) == Dyed.coloursLeft(b, set)) {
+                if ((a & ~set) == (b & ~set)) {
                     return false;
                 }
             }

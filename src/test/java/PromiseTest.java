@@ -1,4 +1,4 @@
-/** Each promise of the document on ordinary inputs, at the edges it names, and on wrong inputs; answers worked out by hand. */
+/** Each promise on ordinary inputs, at the edges that the document names, and on wrong inputs; all worked out by hand. */
 public final class PromiseTest {
     private static final int NONE = -1000000, BAD = -1000001, STATE = -1000002, FULL = -1000003;
     private static final int NULL = -1000011, PLACE = -1000012, KIND = -1000013, SIZE = -1000014, STORE = -1000015;
@@ -474,7 +474,8 @@ public final class PromiseTest {
 
     private static void thingCall() {
         GreyDays x = seven();
-        int[][] told = {{7, 0, 6, 8}, {6, 1, 6, 5}, {7, 2, 4, 3}, {7, 1, 70, 7}, {7, 0, 7, 7}, {9, 3, 0, 2}, {19, 0, 18, 2}};
+        int[][] told = {{7, 0, 6, 8}, {6, 1, 6, 5}, {7, 2, 4, 3}, {7, 1, 70, 7}, {7, 0, 7, 7}, {9, 3, 0, 2},
+            {19, 0, 18, 2}};
         for (int i = 0; i < 7; i++) {
             for (int what = 0; what < 4; what++) {
                 due(13, "thing(" + i + ", " + what + ")", x.thing(i, what), told[i][what]);
