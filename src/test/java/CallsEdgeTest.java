@@ -274,6 +274,21 @@ public final class CallsEdgeTest {
         items(x, 0, 3, 4, 5, 4, 5);
         due("in place", x.copy(0, 0, 0, 0, 5), 5);
         items(x, 0, 3, 4, 5, 4, 5);
+        for (int lane = 0; lane <= 2; lane++) {
+            x = new GreyDays();
+            x.row(6, lane, 40);
+            x.row(7, lane, 40);
+            for (int i = 0; i < 40; i++) {
+                x.set(6, i, i % 32);
+            }
+            due("all 40", x.copy(6, 0, 7, 0, 40), 40);
+            item(x, 7, 0, 0);
+            item(x, 7, 31, 31);
+            item(x, 7, 32, 0);
+            item(x, 7, 39, 7);
+            due("up by 39", x.copy(7, 0, 7, 39, 1), 1);
+            item(x, 7, 39, 0);
+        }
         sentence("BAD: ROWS; NULL; STORE;");
         GreyDays y = new GreyDays();
         y.row(0, 0, 2);
@@ -920,6 +935,23 @@ public final class CallsEdgeTest {
         x.undo();
         due("undone to what was restored", x.thing(0, 0), 31);
         due("none was kept of the other", x.restore(0), STATE);
+        x = townOf("c1,2,3,4,5,3,2;d1,0;w2,1;s3,2;i4,3;f5,0;d6,1;d7,2;m0,1,1;m2,0,2;m0,3,3;m4,0,4;m0,5,5;m6,0,6;"
+            + "m1,2,7;m6,5,8;");
+        x.image(0);
+        tell(x, PLAIN);
+        x.restore(0);
+        int[] week = {1, 2, 3, 4, 5, 3, 2};
+        int[] kinds = {1, 2, 3, 4, 5, 1, 1};
+        for (int i = 0; i < 7; i++) {
+            due("week " + i, x.missing(i), week[i]);
+            due("kind " + i, x.kind(i), kinds[i]);
+            due("mix " + i, x.thing(i, 0), i + 1);
+            due("shape " + i, x.thing(i, 1), i % 4);
+            due("pair 0, " + i, x.pair(0, i), i == 0 ? BAD : i);
+        }
+        due("the seventh pair", x.pair(1, 2), 7);
+        due("the eighth pair", x.pair(5, 6), 8);
+        due("pairs", x.count(2), 8);
     }
 
     // ---- asked
@@ -1152,7 +1184,7 @@ public final class CallsEdgeTest {
     }
 
     private static void townWithoutThings() {
-        sentence("town: law { thing } { pair }. (a TOWN without THINGS)");
+        sentence("a TOWN without THINGS");
         GreyDays x = townOf(PLAIN);
         due("undo", x.undo(), STATE);
         due("days", x.days(1), 1);
@@ -1200,7 +1232,7 @@ public final class CallsEdgeTest {
     }
 
     private static void thingAlone() {
-        sentence("thing: SORT MIX , SHAPE ; (a THING alone)");
+        sentence("a THING alone");
         GreyDays x = townOf(PLAIN + "w7,3;");
         due("thing", x.thing(0, 3), 0);
         due("no second", x.thing(1, 0), BAD);

@@ -112,6 +112,7 @@ public final class TermsEdgeTest {
         kinds();
         sizes();
         marks();
+        nearestBody();
         trace();
         endSentence();
         System.out.println("TermsEdgeTest: " + sentences + " sentences, " + asked + " answers, " + wrong + " wrong");
@@ -307,6 +308,15 @@ public final class TermsEdgeTest {
         due("the next one", x.feed('c'), 1);
         fault(text.substring(0, 119), 1, 119);
         fault(text.substring(0, 119) + ",", 1, 119);
+        fault(text.substring(0, 119) + "0", 1, 120);
+        // What an earlier, longer text left behind is not on the tape.
+        x = townOf(text);
+        due("the end behind c0", tell(x, "c0"), END - 2);
+        due("the end behind c", tell(x, "c"), END - 1);
+        due("the end behind a law", tell(x, "c00,01,02,03,04,05,00;"), 0);
+        due("the end behind a thing", tell(x, text.substring(0, 28)), 1);
+        due("the end behind a pair", tell(x, text.substring(0, 71)), 7);
+        due("one pair", x.count(2), 1);
     }
 
     /** Every byte behind a text that is right so far; a wrong one is a FAULT of its own, or of the NUMBER it ends. */
@@ -512,6 +522,15 @@ public final class TermsEdgeTest {
             due("pairs", townOf(many + EIGHT_PAIRS.substring(0, 7 * n)).count(2), n);
         }
         fault(many + EIGHT_PAIRS + "m2,3,1;", 3, 106);
+        GreyDays x = townOf(many + "m0,1,1;m2,0,2;m0,3,3;m4,0,4;m0,5,5;m6,0,6;m1,2,7;m6,5,8;");
+        int[] sums = {21, 8, 9, 3, 4, 13, 14};
+        for (int i = 0; i < 7; i++) {
+            due("harm of all pairs of " + i, x.thing(i, 3), sums[i]);
+            due("harm of 0 and " + i, x.pair(0, i), i == 0 ? BAD : i);
+            due("harm of 6 and " + i, x.pair(i, 6), i == 6 ? BAD : i == 0 ? 6 : i == 5 ? 8 : 0);
+        }
+        due("the seventh", x.pair(2, 1), 7);
+        due("none", x.pair(3, 4), 0);
     }
 
     private static void townInPlace() {
@@ -538,6 +557,24 @@ public final class TermsEdgeTest {
         due("no harm", x.thing(0, 3), 0);
         due("an empty one", tell(x, BRIGHT), 0);
         due("no thing", x.kind(0), BAD);
+        // Behind one of seven THINGS one of two: nothing of the five others is left.
+        tell(x, PLAIN + "f0,0;f0,1;f0,2;f0,3;f0,0;f0,1;f0,2;m0,1,20;m5,6,20;");
+        due("seven", x.like(6, 0), 127);
+        due("seven", x.shelf(0, -1), 0);
+        due("seven", x.thief(1), 6);
+        tell(x, BRIGHT + "i1,0;i2,0;");
+        due("two", x.like(1, 0), 2);
+        due("two", x.shelf(0, -1), 2);
+        due("two", x.shelf(0, 1), 1);
+        due("two", x.shelf(0, 2), NONE);
+        due("two", x.thief(1), 0);
+        due("two", x.looks(0), 2);
+        due("two", x.tests(0, 1, 1, 0), 2);
+        due("two", x.parted(0, 1, 0), 0);
+        due("two", x.harms(100), 0);
+        due("two", x.week(0), 127);
+        due("two", x.year(200, 1, 0), 0);
+        due("two", x.thing(0, 3), 0);
     }
 
     private static void firstFault() {
@@ -889,6 +926,15 @@ public final class TermsEdgeTest {
         }
         due("n 0", x.dyes(0, -1), BAD);
         due("n 7", x.dyes(7, -1), BAD);
+        // One COLOUR is missing: of two that are one but for it the lesser comes alone.
+        int[][] rows = {{1, 2, 4, 6, 8, 10}, {1, 2, 4, 5, 8, 9}, {1, 2, 3, 4, 8, 9}, {1, 2, 3, 4, 5, 6}, {1, 2, 3, 4, 5, 6}};
+        for (int colour = 0; colour < 5; colour++) {
+            x = townOf(BRIGHT);
+            x.miss(3, colour);
+            for (int k = 0; k < 6; k++) {
+                due("by " + colour + ", k " + k, x.dyes(6, k), rows[colour][k]);
+            }
+        }
         // Two are alike, if they are one but for a COLOUR missing: 15 pairs for each such COLOUR.
         for (int weekday = 0; weekday < 7; weekday++) {
             x = townOf(BRIGHT);
@@ -900,6 +946,17 @@ public final class TermsEdgeTest {
             }
             x.miss(weekday, 4);
             due("4 on " + weekday, x.dyes(2, -1), 450);
+        }
+        for (int set = 0; set <= 31; set++) {
+            x = townOf(BRIGHT);
+            int missing = 0;
+            for (int colour = 0; colour < 5; colour++) {
+                if ((set >> colour & 1) != 0) {
+                    x.miss(missing++, colour);
+                }
+            }
+            due("rows of 2, without " + set, x.dyes(2, -1), 465 - 15 * missing);
+            due("never NONE, without " + set, x.dyes(6, 5) > 5 ? 1 : 0, 1);
         }
         x = townOf("c0,1,2,3,4,4,4;");
         due("all five", x.dyes(2, -1), 390);
@@ -1196,6 +1253,33 @@ public final class TermsEdgeTest {
         x.days(1);
         ask(x, 0, 1, 29, 21, 20);
         ask(x, 2, 1, 2 + 157 - 1000, 22, 21, 20);
+    }
+
+    private static void nearestBody() {
+        sentence("(Of an ask the BODY told for the KIND begins, else that of the nearest KIND that it is, too, else the "
+            + "one that is lent; SIZE, MARK within others are asked of the same THING anew.)");
+        GreyDays x = townOf(BRIGHT + "f1,0;s1,0;w1,0;i1,0;d1,0;");
+        int[] firstOfSize = {14, 11, 12, 13, 11};
+        int[] firstOfMark = {23, 22, 24, 23, 21};
+        int[] lastOfSize = {10, 20, 20, 10, 20};
+        int[] lastOfMark = {10, 20, 20, 10, 20};
+        int[] longOfSize = {3, 5, 6, 2, 4};
+        int[] longOfMark = {5, 3, 3, 4, 2};
+        for (int one = 0; one < 5; one++) {
+            x.ask(one, 0);
+            due("SIZE of " + one + " begins by", x.trace(0), firstOfSize[one]);
+            due("SIZE of " + one + " ends by", x.trace(longOfSize[one] - 1), lastOfSize[one]);
+            due("no more", x.trace(longOfSize[one]), NONE);
+            x.ask(one, 1);
+            due("MARK of " + one + " begins by", x.trace(0), firstOfMark[one]);
+            due("MARK of " + one + " ends by", x.trace(longOfMark[one] - 1), lastOfMark[one]);
+            due("no more", x.trace(longOfMark[one]), NONE);
+        }
+        // Painted, and restored from an IMAGE, a THING is still of its KIND.
+        x.paint(2, 3);
+        x.image(0);
+        x.restore(0);
+        ask(x, 2, 0, -(3 + 2 * (2 + 2)), 12, 11, 10, 24, 21, 20);
     }
 
     private static void trace() {
