@@ -756,10 +756,18 @@ public final class GreyDays {
         }
 
         void addThing(int kind, int mix, int shape) {
-            if (thingCount < MOST_THINGS) {
-                things[thingCount] = newThing(kind, thingCount, mix, shape);
-                thingCount++;
+            if (thingCount >= MOST_THINGS) {
+                return;
             }
+            int number = thingCount;
+            switch (kind) {
+                case TWIN: things[number] = new Twin(number, mix, shape); break;
+                case SHINING: things[number] = new Shining(number, mix, shape); break;
+                case INK: things[number] = new Ink(number, mix, shape); break;
+                case FADED: things[number] = new Faded(number, mix, shape); break;
+                default: things[number] = new Dyed(number, mix, shape); break;
+            }
+            thingCount++;
         }
 
         void addPair(int a, int b, int harm) {
@@ -768,16 +776,6 @@ public final class GreyDays {
                 seconds[pairCount] = b;
                 harms[pairCount] = harm;
                 pairCount++;
-            }
-        }
-
-        private static Thing newThing(int kind, int number, int mix, int shape) {
-            switch (kind) {
-                case TWIN: return new Twin(number, mix, shape);
-                case SHINING: return new Shining(number, mix, shape);
-                case INK: return new Ink(number, mix, shape);
-                case FADED: return new Faded(number, mix, shape);
-                default: return new Dyed(number, mix, shape);
             }
         }
 
